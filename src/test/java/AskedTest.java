@@ -1,0 +1,278 @@
+import java.util.function.Supplier;
+
+/** Promises 17 to 28: what is asked, and the time that is left. */
+final class AskedTest {
+    private static final int[] NO_INDEX = {-1, 2, 6, 8, Integer.MIN_VALUE, Integer.MAX_VALUE};
+    private static final Class<IndexOutOfBoundsException> INDEX = IndexOutOfBoundsException.class;
+
+    // Two of all that is asked by its number, and two events.
+    private static Orbitdock twoOfAll() {
+        Orbitdock x = new Orbitdock();
+        x.addRoom(0);
+        x.addRoom(190);
+        x.board(0);
+        x.board(1);
+        x.addDevice('s', 0);
+        x.addDevice('e', 1);
+        x.setDevice(1, true);
+        x.approach(40, 1);
+        x.approach(50, 1);
+        x.pass(3);
+        return x;
+    }
+
+    private static Orbitdock alone(int oxygen) {
+        Orbitdock x = new Orbitdock();
+        x.addRoom(oxygen);
+        x.board(0);
+        return x;
+    }
+
+    static void promise17TellsOxygen() {
+        Orbitdock x = twoOfAll();
+        Expect.same("oxygen", 0, x.oxygen(0));
+        Expect.same("oxygen", 196, x.oxygen(1));
+        for (int no : NO_INDEX) {
+            Expect.refused("oxygen", INDEX, AskedTest::twoOfAll, y -> y.oxygen(no));
+        }
+    }
+
+    static void promise18TellsCarbon() {
+        Orbitdock x = twoOfAll();
+        Expect.same("carbon", 0, x.carbon(0));
+        Expect.same("carbon", 3, x.carbon(1));
+        for (int no : NO_INDEX) {
+            Expect.refused("carbon", INDEX, AskedTest::twoOfAll, y -> y.carbon(no));
+        }
+    }
+
+    static void promise19TellsWater() {
+        Expect.same("water", 50, new Orbitdock().water());
+        Expect.same("water", 41, twoOfAll().water());
+    }
+
+    static void promise20TellsBattery() {
+        Expect.same("battery", 100, new Orbitdock().battery());
+        Expect.same("battery", 115, twoOfAll().battery());
+    }
+
+    static void promise21TellsWhereSomebodyIs() {
+        Orbitdock x = twoOfAll();
+        Expect.same("who died", -1, x.whereIs(0));
+        Expect.same("who lives", 1, x.whereIs(1));
+        for (int no : NO_INDEX) {
+            Expect.refused("whereIs", INDEX, AskedTest::twoOfAll, y -> y.whereIs(no));
+        }
+    }
+
+    static void promise23TellsWhetherADeviceIsOn() {
+        Orbitdock x = twoOfAll();
+        Expect.same("off", false, x.isOn(0));
+        Expect.same("on", true, x.isOn(1));
+        for (int no : NO_INDEX) {
+            Expect.refused("isOn", INDEX, AskedTest::twoOfAll, y -> y.isOn(no));
+        }
+    }
+
+    static void promise24TellsTheSafeMode() {
+        Expect.same("at first", false, new Orbitdock().isSafe());
+        Expect.same("begun", true, twoOfAll().isSafe());
+    }
+
+    static void promise25CountsEvents() {
+        Expect.same("at first", 0, new Orbitdock().events());
+        Expect.same("two", 2, twoOfAll().events());
+    }
+
+    static void promise26TellsEvents() {
+        Orbitdock x = twoOfAll();
+        Expect.same("first", 's', x.eventAt(0));
+        Expect.same("second", 'k', x.eventAt(1));
+        for (int no : NO_INDEX) {
+            Expect.refused("eventAt", INDEX, AskedTest::twoOfAll, y -> y.eventAt(no));
+        }
+        Expect.refused("eventAt", INDEX, Orbitdock::new, y -> y.eventAt(0));
+    }
+
+    static void promise25KeepsAllEvents() {
+        Orbitdock x = alone(9);
+        x.addRoom(200);
+        x.addRoom(200);
+        x.addHatch(1, 2);
+        x.setLeak(0, 9);
+        x.setTask(0, 's');
+        for (int i = 1; i <= 250; i++) {
+            x.pass(1);
+            Expect.same("was", true, x.endSafe());
+        }
+        Expect.same("events", 250, x.events());
+        Expect.same("the last one", 's', x.eventAt(249));
+    }
+
+    static void promise27CountsTheMinuteOfDeath() {
+        Expect.same("without air", 3, alone(0).timeLeft());
+        Expect.same("with 10 units", 13, alone(10).timeLeft());
+        Orbitdock x = alone(0);
+        x.pass(2);
+        Expect.same("in the last minute", 1, x.timeLeft());
+        x.pass(1);
+        Expect.same("nobody alive", 300, x.timeLeft());
+    }
+
+    static void promise27NobodyMeans300() {
+        Expect.same("empty station", 300, new Orbitdock().timeLeft());
+        Expect.same("empty rooms", 300, StationTest.fullStation().timeLeft());
+    }
+
+    static void promise27IsWhatReallyComes() {
+        int[] deaths = new int[400];
+        for (int oxygen = 85; oxygen <= 105; oxygen++) {
+            int more = oxygen;
+            Supplier<Orbitdock> scene = () -> {
+                Orbitdock x = alone(200);
+                x.addRoom(more);
+                x.addHatch(0, 1);
+                return x;
+            };
+            int death = minuteOfDeath(scene.get());
+            deaths[death]++;
+            Expect.same("timeLeft with " + oxygen, Math.min(death, 300), scene.get().timeLeft());
+        }
+        for (int death = 298; death <= 302; death++) {
+            Expect.same("scenes with a death in minute " + death, 1, deaths[death]);
+        }
+    }
+
+    private static int minuteOfDeath(Orbitdock x) {
+        int minute = 0;
+        while (x.whereIs(0) >= 0 && minute < 399) {
+            minute = x.pass(1);
+        }
+        return minute;
+    }
+
+    static void promise27IsOfTheFirstWhoDies() {
+        Orbitdock x = alone(100);
+        x.addRoom(20);
+        x.board(1);
+        Expect.same("the second one's", 23, x.timeLeft());
+        x.addRoom(5);
+        x.board(2);
+        Expect.same("the third one's", 8, x.timeLeft());
+        x.pass(8);
+        Expect.same("the second one's again", 15, x.timeLeft());
+    }
+
+    static void promise27ReckonsWithCommandsShipsAndTheSafeMode() {
+        Orbitdock x = alone(30);
+        x.addDevice('e', 0);
+        Expect.same("off", 33, x.timeLeft());
+        x.send('n', 0, 20, 0);
+        Expect.same("commanded on", 83, x.timeLeft());
+        x.approach(60, 40);
+        Expect.same("a ship at rest", 83, x.timeLeft());
+        x.burn(0, 1);
+        Expect.same("a ship on its way", 123, x.timeLeft());
+        Orbitdock worker = alone(30);
+        worker.setTask(0, 'w');
+        // 11 minutes of work leave 8 units, which last for 8 minutes of rest.
+        Expect.same("a worker", 22, worker.timeLeft());
+    }
+
+    static void promise27And28ChangeNothing() {
+        for (int minutes : new int[] {0, 3, 45}) {
+            Supplier<Orbitdock> scene = () -> busyStation(minutes);
+            Orbitdock asked = scene.get();
+            asked.timeLeft();
+            asked.worst();
+            asked.isSound();
+            Orbitdock other = scene.get();
+            Expect.same("pass", other.pass(1), asked.pass(1));
+            Expect.same("all", Probe.everything(other), Probe.everything(asked));
+        }
+    }
+
+    private static Orbitdock busyStation(int minutes) {
+        Orbitdock x = StationTest.fullStation();
+        x.board(1);
+        x.board(4);
+        x.setTask(1, 'w');
+        x.setDevice(1, true);
+        x.setLeak(2, 3);
+        x.approach(30, 9);
+        x.burn(0, 2);
+        x.send('n', 0, 15, 5);
+        x.send('h', 0, 16, 5);
+        x.send('n', 3, 40, 45);
+        for (int i = 0; i < minutes; i++) {
+            x.pass(1);
+        }
+        return x;
+    }
+
+    static void promise28WithoutDevicesIsTimeLeft() {
+        Expect.same("worst", 33, alone(30).worst());
+        Expect.same("worst of nobody", 300, StationTest.fullStation().worst());
+        Expect.same("worst of nothing", 300, new Orbitdock().worst());
+    }
+
+    static void promise28TakesEachDeviceAsOff() {
+        Orbitdock x = alone(30);
+        x.setDevice(x.addDevice('e', 0), true);
+        Expect.same("as it is", 83, x.timeLeft());
+        Expect.same("without the electrolyser", 33, x.worst());
+        x.setDevice(x.addDevice('e', 0), true);
+        Expect.same("as it is", 83, x.timeLeft());
+        Expect.same("without one of two", 83, x.worst());
+        Expect.same("still on", true, x.isOn(0) && x.isOn(1));
+    }
+
+    static void promise28FindsTheLastDeviceToo() {
+        Orbitdock x = alone(30);
+        x.addDevice('l', 0);
+        x.addDevice('l', 0);
+        x.setDevice(x.addDevice('e', 0), true);
+        Expect.same("as it is", 83, x.timeLeft());
+        Expect.same("without the third device", 33, x.worst());
+    }
+
+    static void promise28IsOffWhateverIsCommanded() {
+        Orbitdock x = alone(30);
+        x.addDevice('e', 0);
+        x.send('n', 0, 10, 0);
+        Expect.same("as it is", 83, x.timeLeft());
+        Expect.same("without what is commanded on", 33, x.worst());
+        x.pass(11);
+        Expect.same("on", true, x.isOn(0));
+    }
+
+    // Without the scrubber the safe mode comes earlier, and then rest: as it is, it is worst.
+    static void promise28CountsAsItIsToo() {
+        Orbitdock x = alone(200);
+        x.setTask(0, 'w');
+        x.setDevice(x.addDevice('s', 0), true);
+        Expect.same("as it is", 107, x.timeLeft());
+        Expect.same("worst", 107, x.worst());
+        x.setDevice(0, false);
+        Expect.same("without the scrubber", 182, x.timeLeft());
+        Expect.same("worst", 182, x.worst());
+    }
+
+    static void promise28IsTheLeastOverSeveral() {
+        Orbitdock x = alone(200);
+        x.setTask(0, 'w');
+        x.addDevice('s', 0);
+        x.addDevice('e', 0);
+        x.addDevice('e', 0);
+        x.setDevice(0, true);
+        x.setDevice(1, true);
+        int least = x.timeLeft();
+        for (int device = 0; device < 2; device++) {
+            x.setDevice(device, false);
+            least = Math.min(least, x.timeLeft());
+            x.setDevice(device, true);
+        }
+        Expect.same("without the electrolyser", 107, least);
+        Expect.same("worst", 107, x.worst());
+    }
+}
