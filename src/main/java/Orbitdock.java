@@ -400,7 +400,9 @@ public final class Orbitdock {
             rooms.leakOut();
             levelRooms();
             crew.breathe(rooms, events, minute);
-            watchAir();
+            if (!safe && crew.isInDanger(rooms)) {
+                beginSafeMode();
+            }
             minute++;
         }
 
@@ -440,23 +442,18 @@ public final class Orbitdock {
         private void runDevices() {
             int power = battery + (isInSun() ? panels : 0);
             for (int i = 0; i < devices.count; i++) {
-                int needed = Devices.powerOf(devices.kind[i]);
+                char kind = devices.kind[i];
+                int needed = Devices.powerOf(kind);
                 if (devices.on[i] && i != devices.failed && power >= needed) {
                     power -= needed;
-                    operate(devices.kind[i], devices.room[i]);
+                    if (kind == 's') {
+                        store += rooms.takeCarbon(devices.room[i], SCRUBBED_CARBON);
+                    } else if (kind == 'e') {
+                        tank -= rooms.addOxygen(devices.room[i], Math.min(MADE_OXYGEN, tank));
+                    }
                 }
             }
             battery = Math.min(power, MAX_BATTERY);
-        }
-
-        private void operate(char kind, int room) {
-            if (kind == 's') {
-                store += rooms.takeCarbon(room, SCRUBBED_CARBON);
-            } else if (kind == 'e') {
-                int made = Math.min(MADE_OXYGEN, tank);
-                tank -= made;
-                rooms.addOxygen(room, made);
-            }
         }
 
         private void levelRooms() {
@@ -467,14 +464,12 @@ public final class Orbitdock {
             }
         }
 
-        private void watchAir() {
-            if (!safe && crew.isInDanger(rooms)) {
-                safe = true;
-                devices.darken();
-                crew.stopWork();
-                commands.count = 0;
-                events.add('s');
-            }
+        private void beginSafeMode() {
+            safe = true;
+            devices.darken();
+            crew.stopWork();
+            commands.count = 0;
+            events.add('s');
         }
 
         private boolean isInSun() {
@@ -519,10 +514,12 @@ public final class Orbitdock {
             leaked = from.leaked;
         }
 
-        void addOxygen(int room, int units) {
-            if (has(room)) {
-                oxygen[room] += units;
+        int addOxygen(int room, int units) {
+            if (!has(room)) {
+                return 0;
             }
+            oxygen[room] += units;
+            return units;
         }
 
         int takeCarbon(int room, int most) {

@@ -109,6 +109,18 @@ final class AskedTest {
         Expect.same("the last one", 's', x.eventAt(249));
     }
 
+    // What calls behind the 512th answer is free, but that they don't break is not.
+    static void manyMoreEventsThanPromisedBreakNothing() {
+        Orbitdock x = alone(9);
+        x.setTask(0, 's');
+        for (int i = 0; i < 3000; i++) {
+            x.pass(1);
+            x.endSafe();
+        }
+        Expect.same("the last one kept", 's', x.eventAt(x.events() - 1));
+        Expect.same("behind it", INDEX, Expect.thrownBy(() -> x.eventAt(x.events())));
+    }
+
     static void promise27CountsTheMinuteOfDeath() {
         Expect.same("without air", 3, alone(0).timeLeft());
         Expect.same("with 10 units", 13, alone(10).timeLeft());
@@ -179,6 +191,57 @@ final class AskedTest {
         Expect.same("a worker", 22, worker.timeLeft());
     }
 
+    static void promise27ReckonsWithLifeAndTargetOfCommands() {
+        Orbitdock x = alone(30);
+        x.addDevice('l', 0);
+        x.addDevice('e', 0);
+        x.send('n', 1, 2, 7);
+        Expect.same("expired ahead of contact", 33, x.timeLeft());
+        x.send('n', 1, 2, 8);
+        Expect.same("in its last minute", 83, x.timeLeft());
+    }
+
+    static void promise27ReckonsWithPower() {
+        Orbitdock x = alone(30);
+        x.setDevice(x.addDevice('e', 0), true);
+        Expect.same("with all water", 83, x.timeLeft());
+        x.setPanels(0);
+        Expect.same("with all water by the battery", 83, x.timeLeft());
+        x.addDevice('e', 0);
+        x.addDevice('s', 0);
+        x.setDevice(2, true);
+        // 12 times 8 of the 100, then the scrubber alone.
+        Expect.same("with the water for 12 minutes", 69, x.timeLeft());
+        x.pass(1);
+        Expect.same("a minute later", 68, x.timeLeft());
+    }
+
+    static void promise27ReckonsWithLeaksHatchesAndWhereDevicesAre() {
+        Orbitdock x = new Orbitdock();
+        x.addRoom(0);
+        x.addRoom(30);
+        x.addRoom(31);
+        x.board(1);
+        x.addDevice('e', 2);
+        x.setDevice(0, true);
+        x.setPanels(40);
+        Expect.same("behind walls", 33, x.timeLeft());
+        x.setLeak(1, 9);
+        Expect.same("with a leak", 6, x.timeLeft());
+        x.setLeak(1, 0);
+        x.setDevice(0, false);
+        x.addHatch(1, 2);
+        int both = x.timeLeft();
+        Expect.same("with a hatch to the third room", true, both >= 61 && both <= 64);
+        x.setHatch(0, false);
+        x.addHatch(0, 2);
+        Expect.same("with a hatch elsewhere", 33, x.timeLeft());
+        x.setHatch(0, true);
+        x.setHatch(1, false);
+        x.setDevice(0, true);
+        Expect.same("with the device there", both + 50, x.timeLeft());
+    }
+
     static void promise27And28ChangeNothing() {
         for (int minutes : new int[] {0, 3, 45}) {
             Supplier<Orbitdock> scene = () -> busyStation(minutes);
@@ -208,6 +271,24 @@ final class AskedTest {
             x.pass(1);
         }
         return x;
+    }
+
+    static void promise27And28AnswerForAFullStation() {
+        Orbitdock x = StationTest.fullStation();
+        for (int i = 0; i < 6; i++) {
+            x.board(i);
+        }
+        for (int i = 0; i < 4; i++) {
+            x.approach(100 + i, i);
+        }
+        for (int i = 0; i < 12; i++) {
+            x.send("nfoh".charAt(i % 4), i % 8, 1 + i, 99);
+        }
+        int left = x.timeLeft();
+        Expect.same("worst", true, x.worst() <= left && x.worst() > 0);
+        Expect.same("sound", true, x.isSound());
+        x.pass(90);
+        Expect.same("somebody died", left <= 90, Expect.eventsOf(x).indexOf('k') >= 0);
     }
 
     static void promise28WithoutDevicesIsTimeLeft() {

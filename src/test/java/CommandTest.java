@@ -228,9 +228,13 @@ final class CommandTest {
         x.board(0);
         x.pass(1);
         Expect.same("events", "s", Expect.eventsOf(x));
+        x.endSafe();
+        Expect.same("waiting", 1, x.send('f', 0, 99, 99));
+        x.pass(1);
+        Expect.same("events", "ss", Expect.eventsOf(x));
         x.pass(20);
         Expect.same("on", false, x.isOn(0));
-        Expect.same("events", "sk", Expect.eventsOf(x));
+        Expect.same("events", "ssk", Expect.eventsOf(x));
         x.endSafe();
         Expect.same("waiting", 1, x.send('f', 0, 99, 99));
     }

@@ -94,6 +94,14 @@ final class CrewTest {
         Expect.refused("move to the same room", UNSUPPORTED, CrewTest::oneDied, x -> x.move(1, 1));
     }
 
+    static void promise10RefusesWithAllHatchesElsewhere() {
+        Expect.refused("move past eight hatches", UNSUPPORTED, () -> {
+            Orbitdock x = StationTest.fullStation();
+            x.board(0);
+            return x;
+        }, x -> x.move(0, 3));
+    }
+
     static void promise10ShutHatchRefuses() {
         Expect.refused("move through a shut hatch", UNSUPPORTED, () -> {
             Orbitdock x = oneDied();

@@ -402,6 +402,16 @@ final class MinuteTest {
         Expect.same("asleep", 2, x.carbon(2));
     }
 
+    static void sleepersBreatheInEvenMinutes() {
+        Orbitdock x = oneRoom(100);
+        x.board(0);
+        x.setTask(0, 's');
+        for (int minute = 0; minute < 20; minute++) {
+            x.pass(1);
+            Expect.same("behind minute " + minute, 99 - minute / 2, x.oxygen(0));
+        }
+    }
+
     static void peopleBreatheByRisingNumbers() {
         Orbitdock x = oneRoom(1);
         x.board(0);
