@@ -21,13 +21,6 @@ final class AskedTest {
         return x;
     }
 
-    private static Orbitdock alone(int oxygen) {
-        Orbitdock x = new Orbitdock();
-        x.addRoom(oxygen);
-        x.board(0);
-        return x;
-    }
-
     static void promise17TellsOxygen() {
         Orbitdock x = twoOfAll();
         Expect.same("oxygen", 0, x.oxygen(0));
@@ -95,7 +88,7 @@ final class AskedTest {
     }
 
     static void promise25KeepsAllEvents() {
-        Orbitdock x = alone(9);
+        Orbitdock x = Scene.alone(9);
         x.addRoom(200);
         x.addRoom(200);
         x.addHatch(1, 2);
@@ -111,7 +104,7 @@ final class AskedTest {
 
     // What calls behind the 512th answer is free, but that they don't break is not.
     static void manyMoreEventsThanPromisedBreakNothing() {
-        Orbitdock x = alone(9);
+        Orbitdock x = Scene.alone(9);
         x.setTask(0, 's');
         for (int i = 0; i < 3000; i++) {
             x.pass(1);
@@ -122,9 +115,9 @@ final class AskedTest {
     }
 
     static void promise27CountsTheMinuteOfDeath() {
-        Expect.same("without air", 3, alone(0).timeLeft());
-        Expect.same("with 10 units", 13, alone(10).timeLeft());
-        Orbitdock x = alone(0);
+        Expect.same("without air", 3, Scene.alone(0).timeLeft());
+        Expect.same("with 10 units", 13, Scene.alone(10).timeLeft());
+        Orbitdock x = Scene.alone(0);
         x.pass(2);
         Expect.same("in the last minute", 1, x.timeLeft());
         x.pass(1);
@@ -133,7 +126,7 @@ final class AskedTest {
 
     static void promise27NobodyMeans300() {
         Expect.same("empty station", 300, new Orbitdock().timeLeft());
-        Expect.same("empty rooms", 300, StationTest.fullStation().timeLeft());
+        Expect.same("empty rooms", 300, Scene.fullStation().timeLeft());
     }
 
     static void promise27IsWhatReallyComes() {
@@ -141,7 +134,7 @@ final class AskedTest {
         for (int oxygen = 85; oxygen <= 105; oxygen++) {
             int more = oxygen;
             Supplier<Orbitdock> scene = () -> {
-                Orbitdock x = alone(200);
+                Orbitdock x = Scene.alone(200);
                 x.addRoom(more);
                 x.addHatch(0, 1);
                 return x;
@@ -164,7 +157,7 @@ final class AskedTest {
     }
 
     static void promise27IsOfTheFirstWhoDies() {
-        Orbitdock x = alone(100);
+        Orbitdock x = Scene.alone(100);
         x.addRoom(20);
         x.board(1);
         Expect.same("the second one's", 23, x.timeLeft());
@@ -176,7 +169,7 @@ final class AskedTest {
     }
 
     static void promise27ReckonsWithCommandsShipsAndTheSafeMode() {
-        Orbitdock x = alone(30);
+        Orbitdock x = Scene.alone(30);
         x.addDevice('e', 0);
         Expect.same("off", 33, x.timeLeft());
         x.send('n', 0, 20, 0);
@@ -185,14 +178,14 @@ final class AskedTest {
         Expect.same("a ship at rest", 83, x.timeLeft());
         x.burn(0, 1);
         Expect.same("a ship on its way", 123, x.timeLeft());
-        Orbitdock worker = alone(30);
+        Orbitdock worker = Scene.alone(30);
         worker.setTask(0, 'w');
         // 11 minutes of work leave 8 units, which last for 8 minutes of rest.
         Expect.same("a worker", 22, worker.timeLeft());
     }
 
     static void promise27ReckonsWithLifeAndTargetOfCommands() {
-        Orbitdock x = alone(30);
+        Orbitdock x = Scene.alone(30);
         x.addDevice('l', 0);
         x.addDevice('e', 0);
         x.send('n', 1, 2, 7);
@@ -202,7 +195,7 @@ final class AskedTest {
     }
 
     static void promise27ReckonsWithPower() {
-        Orbitdock x = alone(30);
+        Orbitdock x = Scene.alone(30);
         x.setDevice(x.addDevice('e', 0), true);
         Expect.same("with all water", 83, x.timeLeft());
         x.setPanels(0);
@@ -256,7 +249,7 @@ final class AskedTest {
     }
 
     private static Orbitdock busyStation(int minutes) {
-        Orbitdock x = StationTest.fullStation();
+        Orbitdock x = Scene.fullStation();
         x.board(1);
         x.board(4);
         x.setTask(1, 'w');
@@ -274,7 +267,7 @@ final class AskedTest {
     }
 
     static void promise27And28AnswerForAFullStation() {
-        Orbitdock x = StationTest.fullStation();
+        Orbitdock x = Scene.fullStation();
         for (int i = 0; i < 6; i++) {
             x.board(i);
         }
@@ -292,13 +285,13 @@ final class AskedTest {
     }
 
     static void promise28WithoutDevicesIsTimeLeft() {
-        Expect.same("worst", 33, alone(30).worst());
-        Expect.same("worst of nobody", 300, StationTest.fullStation().worst());
+        Expect.same("worst", 33, Scene.alone(30).worst());
+        Expect.same("worst of nobody", 300, Scene.fullStation().worst());
         Expect.same("worst of nothing", 300, new Orbitdock().worst());
     }
 
     static void promise28TakesEachDeviceAsOff() {
-        Orbitdock x = alone(30);
+        Orbitdock x = Scene.alone(30);
         x.setDevice(x.addDevice('e', 0), true);
         Expect.same("as it is", 83, x.timeLeft());
         Expect.same("without the electrolyser", 33, x.worst());
@@ -309,7 +302,7 @@ final class AskedTest {
     }
 
     static void promise28FindsTheLastDeviceToo() {
-        Orbitdock x = alone(30);
+        Orbitdock x = Scene.alone(30);
         x.addDevice('l', 0);
         x.addDevice('l', 0);
         x.setDevice(x.addDevice('e', 0), true);
@@ -318,7 +311,7 @@ final class AskedTest {
     }
 
     static void promise28IsOffWhateverIsCommanded() {
-        Orbitdock x = alone(30);
+        Orbitdock x = Scene.alone(30);
         x.addDevice('e', 0);
         x.send('n', 0, 10, 0);
         Expect.same("as it is", 83, x.timeLeft());
@@ -329,7 +322,7 @@ final class AskedTest {
 
     // Without the scrubber the safe mode comes earlier, and then rest: as it is, it is worst.
     static void promise28CountsAsItIsToo() {
-        Orbitdock x = alone(200);
+        Orbitdock x = Scene.alone(200);
         x.setTask(0, 'w');
         x.setDevice(x.addDevice('s', 0), true);
         Expect.same("as it is", 107, x.timeLeft());
@@ -340,7 +333,7 @@ final class AskedTest {
     }
 
     static void promise28IsTheLeastOverSeveral() {
-        Orbitdock x = alone(200);
+        Orbitdock x = Scene.alone(200);
         x.setTask(0, 'w');
         x.addDevice('s', 0);
         x.addDevice('e', 0);

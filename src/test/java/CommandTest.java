@@ -9,18 +9,12 @@ final class CommandTest {
 
     // Two lamps and one hatch, in the minute that is told.
     private static Orbitdock at(int minute) {
-        Orbitdock x = StationTest.twoRooms();
+        Orbitdock x = Scene.twoRooms();
         x.addHatch(0, 1);
         x.addDevice('l', 0);
         x.addDevice('l', 1);
-        passTo(x, 0, minute);
+        Scene.passTo(x, 0, minute);
         return x;
-    }
-
-    private static void passTo(Orbitdock x, int from, int to) {
-        for (int minute = from; minute < to; minute = Math.min(minute + 90, to)) {
-            x.pass(Math.min(90, to - minute));
-        }
     }
 
     private static Orbitdock twelveWait() {
@@ -199,7 +193,7 @@ final class CommandTest {
         for (int no : new int[] {-1, 2, 8, Integer.MIN_VALUE, Integer.MAX_VALUE}) {
             for (char kind : new char[] {'n', 'f', 'o', 'h'}) {
                 Expect.refused("send", INDEX, CommandTest::twelveWait, x -> x.send(kind, no, 1, 0));
-                Expect.refused("send", INDEX, StationTest::safeStation, x -> x.send(kind, no, 1, 0));
+                Expect.refused("send", INDEX, Scene::safeStation, x -> x.send(kind, no, 1, 0));
             }
         }
     }
@@ -207,7 +201,7 @@ final class CommandTest {
     static void promise12RefusesTheThirteenthAndTheSafeMode() {
         Expect.refused("send", STATE, CommandTest::twelveWait, x -> x.send('n', 0, 99, 99));
         for (char kind : new char[] {'n', 'f', 'o', 'h'}) {
-            Expect.refused("send", UNSUPPORTED, StationTest::safeStation, x -> x.send(kind, 0, 1, 0));
+            Expect.refused("send", UNSUPPORTED, Scene::safeStation, x -> x.send(kind, 0, 1, 0));
         }
     }
 
@@ -215,7 +209,7 @@ final class CommandTest {
         Orbitdock x = at(0);
         Expect.same("waiting", 1, x.send('n', 0, 1, 0));
         Expect.same("waiting", 2, x.send('f', 1, 99, 99));
-        passTo(x, 0, 101);
+        Scene.passTo(x, 0, 101);
         Expect.same("events", "xc", Expect.eventsOf(x));
     }
 
@@ -256,5 +250,138 @@ final class CommandTest {
         Expect.same("scrubber", true, x.isOn(1));
         x.pass(5);
         Expect.same("scrubber, its command gone", true, x.isOn(1));
+    }
+
+    // What a command's own lamp tells of it: whether it acted or expired, and in which minute.
+    private static String fate(int sent, int minutes, int life) {
+        Orbitdock x = at(sent);
+        x.send('n', 0, minutes, life);
+        for (int minute = sent; minute < sent + 200; minute++) {
+            x.pass(1);
+            if (x.events() > 0) {
+                return (x.isOn(0) ? "on, " : "off, ") + x.eventAt(0) + " in " + minute;
+            }
+        }
+        return "waits";
+    }
+
+    static void contactBeginsWithMinuteTenOfEachOrbit() {
+        Expect.same("arrival in 9", "off, x in 10", fate(8, 1, 0));
+        Expect.same("arrival in 10", "on, c in 10", fate(9, 1, 0));
+        Expect.same("arrival in 99", "off, x in 100", fate(98, 1, 0));
+        Expect.same("arrival in 100", "on, c in 100", fate(99, 1, 0));
+        Expect.same("arrival in 9909", "off, x in 9910", fate(9908, 1, 0));
+    }
+
+    static void contactEndsWithMinuteFortyNineOfEachOrbit() {
+        Expect.same("arrival in 49", "on, c in 49", fate(48, 1, 0));
+        Expect.same("arrival in 50", "off, x in 51", fate(49, 1, 0));
+        Expect.same("arrival in 139", "on, c in 139", fate(138, 1, 0));
+        Expect.same("arrival in 140", "off, x in 141", fate(139, 1, 0));
+    }
+
+    static void contactOfTheLastWholeOrbit() {
+        Orbitdock x = at(9909);
+        x.send('n', 0, 1, 0);
+        x.send('n', 1, 41, 0);
+        x.send('f', 0, 40, 0);
+        x.pass(1);
+        Expect.same("arrives in 9910", "", Expect.eventsOf(x));
+        x.pass(1);
+        Expect.same("acted", true, x.isOn(0));
+        x.pass(39);
+        Expect.same("acted in 9949", false, x.isOn(0));
+        x.pass(1);
+        Expect.same("arrived in 9950", "cc", Expect.eventsOf(x));
+        x.pass(1);
+        Expect.same("expired in 9951", "ccx", Expect.eventsOf(x));
+        // Minute 9998 is the last one that passes, and minute 9 of its orbit is 9999.
+        Expect.same("waiting", 1, x.send('n', 0, 1, 99));
+        x.pass(47);
+        Expect.same("no contact up to the end", "ccx", Expect.eventsOf(x));
+    }
+
+    static void aCommandWaitsOverTheStepToTheNextOrbit() {
+        Expect.same("50 minutes from the first without contact", "on, c in 100", fate(40, 10, 50));
+        Expect.same("49 minutes", "off, x in 100", fate(40, 10, 49));
+        Expect.same("from the last minute of an orbit", "on, c in 100", fate(80, 9, 11));
+        Expect.same("a minute less", "off, x in 100", fate(80, 9, 10));
+        Expect.same("from the first minute of an orbit", "on, c in 100", fate(80, 10, 10));
+        Expect.same("a minute less", "off, x in 100", fate(80, 10, 9));
+    }
+
+    static void promise12TheGreatestNumbersHold() {
+        Expect.same("arrival behind 99 minutes", "on, c in 111", fate(12, 99, 0));
+        Expect.same("the greatest life", "on, c in 100", fate(49, 1, 99));
+        Expect.same("both", "on, c in 100", fate(0, 99, 99));
+        Expect.same("the least ones in contact", "on, c in 21", fate(20, 1, 0));
+    }
+
+    // Each arrival in the first orbit and in the next one's contact, with each life that makes a difference.
+    static void commandsActInTimeOrExpireInTheMinuteBehind() {
+        for (int life = 0; life <= 52; life++) {
+            Orbitdock[] stations = {at(0), at(45), at(90)};
+            for (int i = 0; i < 3; i++) {
+                compareTwelve(stations[i], 45 * i, life);
+            }
+        }
+    }
+
+    private static void compareTwelve(Orbitdock x, int sent, int life) {
+        int[] arrivals = new int[12];
+        for (int i = 0; i < 12; i++) {
+            int minutes = 1 + (i * 9 + life * 5) % 99;
+            arrivals[i] = sent + minutes;
+            x.send('n', 0, minutes, life);
+        }
+        for (int minute = sent; minute < sent + 160; minute++) {
+            StringBuilder due = new StringBuilder();
+            for (int arrival : arrivals) {
+                due.append(eventIn(minute, arrival, life));
+            }
+            int before = x.events();
+            x.pass(1);
+            Expect.same("events of minute " + minute, due.toString(), Expect.eventsOf(x).substring(before));
+        }
+    }
+
+    private static String eventIn(int minute, int arrival, int life) {
+        int contact = arrival;
+        while (contact % 90 < 10 || contact % 90 > 49) {
+            contact++;
+        }
+        if (contact <= arrival + life) {
+            return minute == contact ? "c" : "";
+        }
+        return minute == arrival + life + 1 ? "x" : "";
+    }
+
+    static void commandsThatExpireAndActInOneMinuteStandInTheirOrder() {
+        Orbitdock x = at(50);
+        x.send('n', 0, 50, 0);
+        x.send('n', 1, 40, 9);
+        x.send('f', 0, 49, 1);
+        x.send('f', 1, 49, 0);
+        x.pass(51);
+        Expect.same("events of minute 100", "cxcx", Expect.eventsOf(x));
+        Expect.same("on, then off", false, x.isOn(0));
+        Expect.same("both expired", false, x.isOn(1));
+    }
+
+    static void promise12RefusesArgumentsAheadOfTheSafeMode() {
+        Supplier<Orbitdock> scene = Scene::safeStation;
+        Expect.refused("send of no kind", ARGUMENT, scene, x -> x.send('x', 0, 1, 0));
+        Expect.refused("send in no minutes", ARGUMENT, scene, x -> x.send('n', 0, 0, 0));
+        Expect.refused("send in 100 minutes", ARGUMENT, scene, x -> x.send('n', 0, 100, 0));
+        Expect.refused("send with life -1", ARGUMENT, scene, x -> x.send('n', 0, 1, -1));
+        Expect.refused("send with life 100", ARGUMENT, scene, x -> x.send('n', 0, 1, 100));
+    }
+
+    static void promise12RefusesAllOnAnEmptyStation() {
+        for (char kind : new char[] {'n', 'f', 'o', 'h'}) {
+            Expect.refused("send", INDEX, Orbitdock::new, x -> x.send(kind, 0, 1, 0));
+            Expect.refused("send", ARGUMENT, Orbitdock::new, x -> x.send(kind, 0, 0, 0));
+            Expect.refused("send", ARGUMENT, Orbitdock::new, x -> x.send(kind, 0, 1, 100));
+        }
     }
 }

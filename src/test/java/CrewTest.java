@@ -25,7 +25,7 @@ final class CrewTest {
     }
 
     static void promise9NumbersPeopleFromZero() {
-        Orbitdock x = StationTest.twoRooms();
+        Orbitdock x = Scene.twoRooms();
         for (int i = 0; i < 6; i++) {
             Expect.same("person", i, x.board(i % 2));
             Expect.same("room", i % 2, x.whereIs(i));
@@ -37,14 +37,14 @@ final class CrewTest {
 
     static void promise9Refuses() {
         for (int no : new int[] {-1, 2, 6, Integer.MIN_VALUE, Integer.MAX_VALUE}) {
-            Expect.refused("board", INDEX, StationTest::twoRooms, x -> x.board(no));
+            Expect.refused("board", INDEX, Scene::twoRooms, x -> x.board(no));
             Expect.refused("board when full", INDEX, CrewTest::sixPeople, x -> x.board(no));
         }
         Expect.refused("board", STATE, CrewTest::sixPeople, x -> x.board(1));
     }
 
     private static Orbitdock sixPeople() {
-        Orbitdock x = StationTest.twoRooms();
+        Orbitdock x = Scene.twoRooms();
         for (int i = 0; i < 6; i++) {
             x.board(i % 2);
         }
@@ -70,7 +70,7 @@ final class CrewTest {
     }
 
     static void promise10AnyOpenHatchWillDo() {
-        Orbitdock x = StationTest.twoRooms();
+        Orbitdock x = Scene.twoRooms();
         x.board(0);
         x.addHatch(0, 1);
         x.addHatch(1, 0);
@@ -96,7 +96,7 @@ final class CrewTest {
 
     static void promise10RefusesWithAllHatchesElsewhere() {
         Expect.refused("move past eight hatches", UNSUPPORTED, () -> {
-            Orbitdock x = StationTest.fullStation();
+            Orbitdock x = Scene.fullStation();
             x.board(0);
             return x;
         }, x -> x.move(0, 3));
@@ -120,7 +120,7 @@ final class CrewTest {
     }
 
     static void promise11SafeModeForbidsWorkAlone() {
-        Orbitdock x = StationTest.safeStation();
+        Orbitdock x = Scene.safeStation();
         Expect.same("sleep", 'r', x.setTask(0, 's'));
         Expect.same("rest", 's', x.setTask(0, 'r'));
         x.endSafe();
@@ -141,7 +141,7 @@ final class CrewTest {
             Expect.refused("setTask of a dead in safe mode", STATE, CrewTest::diedInSafeMode,
                     x -> x.setTask(0, task));
         }
-        Expect.refused("setTask to work", UNSUPPORTED, StationTest::safeStation, x -> x.setTask(0, 'w'));
+        Expect.refused("setTask to work", UNSUPPORTED, Scene::safeStation, x -> x.setTask(0, 'w'));
     }
 
     private static Orbitdock diedInSafeMode() {

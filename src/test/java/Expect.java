@@ -31,7 +31,8 @@ final class Expect {
 
     static String eventsOf(Orbitdock station) {
         StringBuilder row = new StringBuilder();
-        for (int i = 0; i < station.events(); i++) {
+        int events = station.events();
+        for (int i = 0; i < events; i++) {
             row.append(station.eventAt(i));
         }
         return row.toString();

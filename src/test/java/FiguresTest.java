@@ -49,7 +49,7 @@ final class FiguresTest {
 
     static void promise30Refuses() {
         Expect.refused("aliveShare", ArithmeticException.class, Orbitdock::new, Orbitdock::aliveShare);
-        Expect.refused("aliveShare", ArithmeticException.class, StationTest::fullStation, Orbitdock::aliveShare);
+        Expect.refused("aliveShare", ArithmeticException.class, Scene::fullStation, Orbitdock::aliveShare);
     }
 
     static void promise31MeansOxygen() {
@@ -72,7 +72,7 @@ final class FiguresTest {
 
     static void promise32HoldsThroughout() {
         Expect.same("at first", true, new Orbitdock().isSound());
-        Orbitdock x = StationTest.fullStation();
+        Orbitdock x = Scene.fullStation();
         x.board(3);
         x.board(5);
         for (int i = 0; i < 8; i++) {

@@ -1,8 +1,11 @@
+import java.util.function.Supplier;
+
 /** Promises 13, 14 and 22, and what the terms say of ships. */
 final class ShipTest {
     private static final Class<IllegalArgumentException> ARGUMENT = IllegalArgumentException.class;
     private static final Class<IndexOutOfBoundsException> INDEX = IndexOutOfBoundsException.class;
     private static final Class<IllegalStateException> STATE = IllegalStateException.class;
+    private static final Class<UnsupportedOperationException> UNSUPPORTED = UnsupportedOperationException.class;
 
     // Ship 0 is gone, ship 1 waits with a little fuel.
     private static Orbitdock twoShips() {
@@ -62,7 +65,7 @@ final class ShipTest {
         x.pass(3);
         Expect.same("distance at speed -2", 87, x.distance(0));
         Expect.same("fuel", 0, x.burn(0, 0));
-        Expect.same("no fuel", UnsupportedOperationException.class, Expect.thrownBy(() -> x.burn(0, 1)));
+        Expect.same("no fuel", UNSUPPORTED, Expect.thrownBy(() -> x.burn(0, 1)));
     }
 
     static void promise14Refuses() {
@@ -76,8 +79,8 @@ final class ShipTest {
         }
         Expect.refused("burn of a ship that is gone", STATE, ShipTest::twoShips, x -> x.burn(0, 0));
         Expect.refused("burn of a ship that is gone", STATE, ShipTest::emptyShipGone, x -> x.burn(0, 9));
-        Expect.refused("burn", UnsupportedOperationException.class, ShipTest::twoShips, x -> x.burn(1, 4));
-        Expect.refused("burn", UnsupportedOperationException.class, ShipTest::twoShips, x -> x.burn(1, -4));
+        Expect.refused("burn", UNSUPPORTED, ShipTest::twoShips, x -> x.burn(1, 4));
+        Expect.refused("burn", UNSUPPORTED, ShipTest::twoShips, x -> x.burn(1, -4));
     }
 
     private static Orbitdock emptyShipGone() {
@@ -173,5 +176,140 @@ final class ShipTest {
         x.pass(1);
         Expect.same("water", 0, x.water());
         Expect.same("oxygen", 55, x.oxygen(0));
+    }
+
+    // A ship that comes near in one minute, and what becomes of it: its distance, and the event.
+    private static String fate(int distance, int... burns) {
+        Orbitdock x = new Orbitdock();
+        x.approach(distance, 5);
+        for (int change : burns) {
+            x.burn(0, change);
+        }
+        x.pass(1);
+        return x.distance(0) + " " + Expect.eventsOf(x) + " " + x.water();
+    }
+
+    static void shipsDockAtDistanceZeroOrLessWithSpeedTwoOrLess() {
+        Expect.same("speed 2 to distance 1", "1  50", fate(3, 2));
+        Expect.same("speed 2 to distance 0", "-1 d 55", fate(2, 2));
+        Expect.same("speed 2 to distance -1", "-1 d 55", fate(1, 2));
+        Expect.same("speed 1 to distance 1", "1  50", fate(2, 1));
+        Expect.same("speed 1 to distance 0", "-1 d 55", fate(1, 1));
+        Expect.same("speed 0 at distance 1", "1  50", fate(1));
+        Expect.same("speed -1 from distance 1", "2  50", fate(1, -1));
+    }
+
+    static void shipsTurnAwayAtDistanceZeroOrLessAboveSpeedTwo() {
+        Expect.same("speed 3 to distance 1", "1  50", fate(4, 3));
+        Expect.same("speed 3 to distance 0", "100 t 50", fate(3, 3));
+        Expect.same("speed 3 to distance -1", "100 t 50", fate(2, 3));
+        Expect.same("speed 20 to distance 1", "1  50", fate(21, 9, 9, 2));
+        Expect.same("speed 20 to distance 0", "100 t 50", fate(20, 9, 9, 2));
+        Expect.same("speed 20 to distance -19", "100 t 50", fate(1, 9, 9, 2));
+    }
+
+    static void shipsThatTurnedAwayKeepFuelAndWaterAndMayComeAgain() {
+        Orbitdock x = new Orbitdock();
+        x.approach(5, 33);
+        x.burn(0, 5);
+        x.pass(1);
+        Expect.same("fuel", 10, x.burn(0, 5));
+        x.pass(19);
+        Expect.same("distance", 5, x.distance(0));
+        x.pass(1);
+        Expect.same("distance", 100, x.distance(0));
+        Expect.same("events", "tt", Expect.eventsOf(x));
+        Expect.same("fuel", 8, x.burn(0, 2));
+        x.pass(49);
+        Expect.same("distance", 2, x.distance(0));
+        Expect.same("water", 50, x.water());
+        x.pass(1);
+        Expect.same("distance", -1, x.distance(0));
+        Expect.same("water", 83, x.water());
+        Expect.same("events", "ttd", Expect.eventsOf(x));
+    }
+
+    static void promise13TheBoundsOfWaterCome() {
+        Orbitdock x = new Orbitdock();
+        x.approach(1, 0);
+        x.approach(1, 99);
+        x.burn(0, 1);
+        x.pass(1);
+        Expect.same("no water", 50, x.water());
+        x.burn(1, 1);
+        x.pass(1);
+        Expect.same("99 units", 149, x.water());
+        Expect.same("events", "dd", Expect.eventsOf(x));
+    }
+
+    static void promise13TheGreatestDistanceIsPassed() {
+        Orbitdock x = new Orbitdock();
+        x.approach(500, 1);
+        x.burn(0, 9);
+        x.pass(55);
+        Expect.same("distance", 5, x.distance(0));
+        x.pass(1);
+        Expect.same("distance", 100, x.distance(0));
+    }
+
+    static void promise13RefusesWaterAheadOfAFifthShip() {
+        Expect.refused("approach when full", ARGUMENT, ShipTest::fourShips, x -> x.approach(5, 100));
+        Expect.refused("approach when full", ARGUMENT, ShipTest::fourShips, x -> x.approach(5, -1));
+        Expect.refused("approach when full", ARGUMENT, ShipTest::fourShips, x -> x.approach(0, 100));
+        Expect.refused("approach when full", STATE, ShipTest::fourShips, x -> x.approach(1, 0));
+        Expect.refused("approach when full", STATE, ShipTest::fourShips, x -> x.approach(500, 99));
+    }
+
+    static void promise14TheBoundsOfAChange() {
+        Orbitdock x = new Orbitdock();
+        x.approach(500, 0);
+        x.approach(500, 0);
+        Expect.same("fuel behind 9", 11, x.burn(0, 9));
+        Expect.same("fuel behind -9", 11, x.burn(1, -9));
+        x.pass(1);
+        Expect.same("distance", 491, x.distance(0));
+        Expect.same("distance, not bound to 500", 509, x.distance(1));
+        Expect.same("fuel behind 0", 11, x.burn(0, 0));
+    }
+
+    private static Orbitdock withFuel(int fuel) {
+        Orbitdock x = new Orbitdock();
+        x.approach(500, 0);
+        for (int left = 20; left > fuel; left -= Math.min(9, left - fuel)) {
+            x.burn(0, -Math.min(9, left - fuel));
+        }
+        return x;
+    }
+
+    static void promise14FuelMayGoToZeroAndNoFurther() {
+        for (int fuel = 0; fuel < 9; fuel++) {
+            int more = fuel + 1;
+            Expect.same("all fuel", 0, withFuel(fuel).burn(0, fuel));
+            Expect.same("all fuel back", 0, withFuel(fuel).burn(0, -fuel));
+            Supplier<Orbitdock> scene = () -> withFuel(more - 1);
+            Expect.refused("burn of 1 too much", UNSUPPORTED, scene, x -> x.burn(0, more));
+            Expect.refused("burn of 1 too much", UNSUPPORTED, scene, x -> x.burn(0, -more));
+        }
+        Expect.same("fuel of 9", 0, withFuel(9).burn(0, 9));
+        Expect.same("fuel of 10", 1, withFuel(10).burn(0, -9));
+    }
+
+    static void promise14RefusesARangeAheadOfNoFuel() {
+        Expect.refused("burn", ARGUMENT, () -> withFuel(0), x -> x.burn(0, 10));
+        Expect.refused("burn", ARGUMENT, () -> withFuel(0), x -> x.burn(0, -10));
+        Expect.refused("burn", INDEX, () -> withFuel(0), x -> x.burn(1, 9));
+        Expect.refused("burn without ships", INDEX, Orbitdock::new, x -> x.burn(0, 0));
+    }
+
+    static void promise22WithoutShipsThereIsNoDistance() {
+        Expect.refused("distance", INDEX, Orbitdock::new, x -> x.distance(0));
+        Expect.same("the least distance", 1, withDistance(1).distance(0));
+        Expect.same("the greatest distance", 500, withDistance(500).distance(0));
+    }
+
+    private static Orbitdock withDistance(int distance) {
+        Orbitdock x = new Orbitdock();
+        x.approach(distance, 0);
+        return x;
     }
 }

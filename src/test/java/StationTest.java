@@ -7,39 +7,6 @@ final class StationTest {
     private static final Class<IndexOutOfBoundsException> INDEX = IndexOutOfBoundsException.class;
     private static final Class<IllegalStateException> STATE = IllegalStateException.class;
 
-    static Orbitdock twoRooms() {
-        Orbitdock x = new Orbitdock();
-        x.addRoom(60);
-        x.addRoom(20);
-        return x;
-    }
-
-    static Orbitdock fullStation() {
-        Orbitdock x = new Orbitdock();
-        for (int i = 0; i < 6; i++) {
-            x.addRoom(30 * i);
-        }
-        for (int i = 0; i < 8; i++) {
-            x.addHatch(i % 6, (i + 1) % 6);
-            x.addDevice("sel".charAt(i % 3), i % 6);
-        }
-        return x;
-    }
-
-    static Orbitdock safeStation() {
-        Orbitdock x = new Orbitdock();
-        x.addRoom(9);
-        x.addRoom(100);
-        x.addHatch(0, 1);
-        x.setHatch(0, false);
-        x.addDevice('l', 0);
-        x.addDevice('s', 0);
-        x.board(0);
-        x.board(1);
-        x.pass(1);
-        return x;
-    }
-
     static void promise1NewObjectIsEmpty() {
         Orbitdock x = new Orbitdock();
         Expect.same("water", 50, x.water());
@@ -56,7 +23,7 @@ final class StationTest {
 
     static void promise1ObjectsShareNothing() {
         String fresh = Probe.everything(new Orbitdock());
-        Probe.everything(fullStation());
+        Probe.everything(Scene.fullStation());
         Expect.same("a new object", fresh, Probe.everything(new Orbitdock()));
     }
 
@@ -76,13 +43,13 @@ final class StationTest {
     static void promise2Refuses() {
         for (int oxygen : new int[] {-1, 201, Integer.MIN_VALUE, Integer.MAX_VALUE}) {
             Expect.refused("addRoom", ARGUMENT, Orbitdock::new, x -> x.addRoom(oxygen));
-            Expect.refused("addRoom when full", ARGUMENT, StationTest::fullStation, x -> x.addRoom(oxygen));
+            Expect.refused("addRoom when full", ARGUMENT, Scene::fullStation, x -> x.addRoom(oxygen));
         }
-        Expect.refused("addRoom", STATE, StationTest::fullStation, x -> x.addRoom(0));
+        Expect.refused("addRoom", STATE, Scene::fullStation, x -> x.addRoom(0));
     }
 
     static void promise3NumbersHatchesFromZero() {
-        Orbitdock x = twoRooms();
+        Orbitdock x = Scene.twoRooms();
         for (int i = 0; i < 8; i++) {
             Expect.same("hatch", i, i % 2 == 0 ? x.addHatch(0, 1) : x.addHatch(1, 0));
         }
@@ -93,18 +60,18 @@ final class StationTest {
 
     static void promise3Refuses() {
         for (int no : NO_INDEX) {
-            Expect.refused("addHatch", INDEX, StationTest::twoRooms, x -> x.addHatch(no, 0));
-            Expect.refused("addHatch", INDEX, StationTest::twoRooms, x -> x.addHatch(0, no));
-            Expect.refused("addHatch", INDEX, StationTest::twoRooms, x -> x.addHatch(no, no));
+            Expect.refused("addHatch", INDEX, Scene::twoRooms, x -> x.addHatch(no, 0));
+            Expect.refused("addHatch", INDEX, Scene::twoRooms, x -> x.addHatch(0, no));
+            Expect.refused("addHatch", INDEX, Scene::twoRooms, x -> x.addHatch(no, no));
         }
-        Expect.refused("addHatch", ARGUMENT, StationTest::twoRooms, x -> x.addHatch(1, 1));
-        Expect.refused("addHatch when full", INDEX, StationTest::fullStation, x -> x.addHatch(0, 6));
-        Expect.refused("addHatch when full", ARGUMENT, StationTest::fullStation, x -> x.addHatch(5, 5));
-        Expect.refused("addHatch", STATE, StationTest::fullStation, x -> x.addHatch(0, 5));
+        Expect.refused("addHatch", ARGUMENT, Scene::twoRooms, x -> x.addHatch(1, 1));
+        Expect.refused("addHatch when full", INDEX, Scene::fullStation, x -> x.addHatch(0, 6));
+        Expect.refused("addHatch when full", ARGUMENT, Scene::fullStation, x -> x.addHatch(5, 5));
+        Expect.refused("addHatch", STATE, Scene::fullStation, x -> x.addHatch(0, 5));
     }
 
     static void promise4OpensAndShuts() {
-        Orbitdock x = twoRooms();
+        Orbitdock x = Scene.twoRooms();
         x.addHatch(0, 1);
         x.addHatch(0, 1);
         Expect.same("was", true, x.setHatch(0, true));
@@ -120,7 +87,7 @@ final class StationTest {
 
     static void promise4Refuses() {
         Supplier<Orbitdock> scene = () -> {
-            Orbitdock x = twoRooms();
+            Orbitdock x = Scene.twoRooms();
             x.addHatch(0, 1);
             x.addHatch(1, 0);
             return x;
@@ -131,7 +98,7 @@ final class StationTest {
     }
 
     static void promise5SetsLeak() {
-        Orbitdock x = twoRooms();
+        Orbitdock x = Scene.twoRooms();
         Expect.same("before", 0, x.setLeak(0, 9));
         Expect.same("before", 9, x.setLeak(0, 4));
         Expect.same("before", 0, x.setLeak(1, 0));
@@ -142,16 +109,16 @@ final class StationTest {
 
     static void promise5Refuses() {
         for (int no : NO_INDEX) {
-            Expect.refused("setLeak", INDEX, StationTest::twoRooms, x -> x.setLeak(no, 5));
-            Expect.refused("setLeak", INDEX, StationTest::twoRooms, x -> x.setLeak(no, 10));
+            Expect.refused("setLeak", INDEX, Scene::twoRooms, x -> x.setLeak(no, 5));
+            Expect.refused("setLeak", INDEX, Scene::twoRooms, x -> x.setLeak(no, 10));
         }
         for (int leak : new int[] {-1, 10, Integer.MIN_VALUE, Integer.MAX_VALUE}) {
-            Expect.refused("setLeak", ARGUMENT, StationTest::twoRooms, x -> x.setLeak(1, leak));
+            Expect.refused("setLeak", ARGUMENT, Scene::twoRooms, x -> x.setLeak(1, leak));
         }
     }
 
     static void promise6NumbersDevicesFromZero() {
-        Orbitdock x = twoRooms();
+        Orbitdock x = Scene.twoRooms();
         for (int i = 0; i < 8; i++) {
             Expect.same("device", i, x.addDevice("sel".charAt(i % 3), i % 2));
             Expect.same("on at first", false, x.isOn(i));
@@ -160,19 +127,19 @@ final class StationTest {
 
     static void promise6Refuses() {
         for (char kind : new char[] {'x', 'S', 'r', 'w', (char) 0, (char) 65535}) {
-            Expect.refused("addDevice", ARGUMENT, StationTest::twoRooms, x -> x.addDevice(kind, 0));
-            Expect.refused("addDevice", ARGUMENT, StationTest::twoRooms, x -> x.addDevice(kind, 9));
-            Expect.refused("addDevice when full", ARGUMENT, StationTest::fullStation, x -> x.addDevice(kind, 0));
+            Expect.refused("addDevice", ARGUMENT, Scene::twoRooms, x -> x.addDevice(kind, 0));
+            Expect.refused("addDevice", ARGUMENT, Scene::twoRooms, x -> x.addDevice(kind, 9));
+            Expect.refused("addDevice when full", ARGUMENT, Scene::fullStation, x -> x.addDevice(kind, 0));
         }
         for (int no : NO_INDEX) {
-            Expect.refused("addDevice", INDEX, StationTest::twoRooms, x -> x.addDevice('s', no));
+            Expect.refused("addDevice", INDEX, Scene::twoRooms, x -> x.addDevice('s', no));
         }
-        Expect.refused("addDevice when full", INDEX, StationTest::fullStation, x -> x.addDevice('e', 6));
-        Expect.refused("addDevice", STATE, StationTest::fullStation, x -> x.addDevice('l', 5));
+        Expect.refused("addDevice when full", INDEX, Scene::fullStation, x -> x.addDevice('e', 6));
+        Expect.refused("addDevice", STATE, Scene::fullStation, x -> x.addDevice('l', 5));
     }
 
     static void promise7TurnsOnAndOff() {
-        Orbitdock x = twoRooms();
+        Orbitdock x = Scene.twoRooms();
         x.addDevice('s', 0);
         x.addDevice('l', 1);
         Expect.same("was", false, x.setDevice(1, true));
@@ -184,7 +151,7 @@ final class StationTest {
     }
 
     static void promise7SafeModeForbidsLampsAlone() {
-        Orbitdock x = safeStation();
+        Orbitdock x = Scene.safeStation();
         Expect.same("safe", true, x.isSafe());
         Expect.same("a lamp off", false, x.setDevice(0, false));
         Expect.same("a scrubber on", false, x.setDevice(1, true));
@@ -194,10 +161,10 @@ final class StationTest {
 
     static void promise7Refuses() {
         for (int no : NO_INDEX) {
-            Expect.refused("setDevice", INDEX, StationTest::safeStation, x -> x.setDevice(no, true));
-            Expect.refused("setDevice", INDEX, StationTest::safeStation, x -> x.setDevice(no, false));
+            Expect.refused("setDevice", INDEX, Scene::safeStation, x -> x.setDevice(no, true));
+            Expect.refused("setDevice", INDEX, Scene::safeStation, x -> x.setDevice(no, false));
         }
-        Expect.refused("setDevice", UnsupportedOperationException.class, StationTest::safeStation,
+        Expect.refused("setDevice", UnsupportedOperationException.class, Scene::safeStation,
                 x -> x.setDevice(0, true));
     }
 
@@ -214,7 +181,7 @@ final class StationTest {
 
     static void promise8Refuses() {
         for (int units : new int[] {-1, 41, Integer.MIN_VALUE, Integer.MAX_VALUE}) {
-            Expect.refused("setPanels", ARGUMENT, StationTest::twoRooms, x -> x.setPanels(units));
+            Expect.refused("setPanels", ARGUMENT, Scene::twoRooms, x -> x.setPanels(units));
         }
     }
 }

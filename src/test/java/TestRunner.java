@@ -31,7 +31,8 @@ final class TestRunner {
     private static boolean isTest(Method method) {
         int modifiers = method.getModifiers();
         return Modifier.isStatic(modifiers) && !Modifier.isPrivate(modifiers)
-                && !method.isSynthetic() && method.getParameterCount() == 0;
+                && !method.isSynthetic() && method.getParameterCount() == 0
+                && method.getReturnType() == void.class;
     }
 
     private static void run(String className, Method method) throws IllegalAccessException {
