@@ -349,4 +349,216 @@ final class AskedTest {
         Expect.same("without the electrolyser", 107, least);
         Expect.same("worst", 107, x.worst());
     }
+
+    static void promises17To26AnEmptyStationHasNoneOfThese() {
+        Expect.refused("oxygen", INDEX, Orbitdock::new, x -> x.oxygen(0));
+        Expect.refused("carbon", INDEX, Orbitdock::new, x -> x.carbon(0));
+        Expect.refused("whereIs", INDEX, Orbitdock::new, x -> x.whereIs(0));
+        Expect.refused("isOn", INDEX, Orbitdock::new, x -> x.isOn(0));
+        Expect.refused("eventAt", INDEX, Orbitdock::new, x -> x.eventAt(0));
+        Expect.refused("eventAt", INDEX, Orbitdock::new, x -> x.eventAt(-1));
+    }
+
+    static void eventsOfAllSixKinds() {
+        Orbitdock x = Scene.oneRoom(0);
+        x.addDevice('s', 0);
+        x.pass(9);
+        x.send('n', 0, 1, 0);
+        x.pass(2);
+        Expect.same("a command acted", "c", Expect.eventsOf(x));
+        x.pass(39);
+        x.send('n', 0, 1, 0);
+        x.pass(3);
+        Expect.same("one expired", "cx", Expect.eventsOf(x));
+        x.approach(2, 0);
+        x.approach(3, 0);
+        x.burn(0, 2);
+        x.pass(1);
+        Expect.same("a ship docked", "cxd", Expect.eventsOf(x));
+        x.burn(1, 3);
+        x.pass(1);
+        Expect.same("one turned away", "cxdt", Expect.eventsOf(x));
+        x.board(0);
+        x.pass(1);
+        Expect.same("the safe mode began", "cxdts", Expect.eventsOf(x));
+        x.pass(2);
+        Expect.same("somebody died", "cxdtsk", Expect.eventsOf(x));
+        Expect.same("events", 6, x.events());
+        Expect.same("the last one", 'k', x.eventAt(5));
+        Expect.same("behind it", INDEX, Expect.thrownBy(() -> x.eventAt(6)));
+    }
+
+    // Twelve commands a round act in an orbit of their own: about as many events as 512 calls can bring.
+    static void aRowOfEventsOfFiveHundredAndTwelveCalls() {
+        Orbitdock x = Scene.oneRoom(0);
+        x.addDevice('s', 0);
+        int calls = 2;
+        int acted = 0;
+        while (calls + 13 <= 505) {
+            for (int i = 0; i < 12; i++) {
+                x.send("nf".charAt(i % 2), 0, 1 + i, 99);
+            }
+            x.pass(90);
+            calls += 13;
+            acted += 12;
+        }
+        Expect.same("events", 456, acted);
+        Expect.same("events", acted, x.events());
+        Expect.same("the first one", 'c', x.eventAt(0));
+        Expect.same("the last one", 'c', x.eventAt(acted - 1));
+        int behind = acted;
+        Expect.same("behind it", INDEX, Expect.thrownBy(() -> x.eventAt(behind)));
+        Expect.same("off by the last command", false, x.isOn(0));
+        x.addRoom(7);
+        for (calls += 7; calls < 511; calls++) {
+            x.water();
+        }
+        Expect.same("the call with the number 512", 7L, x.checksum());
+    }
+
+    static void promise27CountsFromOne() {
+        for (int units = 0; units <= 200; units += 40) {
+            Expect.same("left with " + units, units + 3, Scene.alone(units).timeLeft());
+        }
+        Orbitdock x = Scene.alone(0);
+        Expect.same("three short minutes", 3, x.timeLeft());
+        x.pass(1);
+        Expect.same("two", 2, x.timeLeft());
+        x.pass(1);
+        Expect.same("one", 1, x.timeLeft());
+        x.pass(1);
+        Expect.same("nobody alive", 300, x.timeLeft());
+        Expect.same("nobody alive", 300, x.worst());
+    }
+
+    // 200 units in the room, the 50 of the tank and a ship's: each lasts for a minute, and the third behind is the last.
+    private static Orbitdock diesIn(int minute) {
+        Orbitdock x = Scene.alone(200);
+        Scene.turnOn(x, "e");
+        x.approach(1, minute - 253);
+        x.burn(0, 1);
+        return x;
+    }
+
+    static void promise27KnowsMinute299And300And301() {
+        int[] deaths = {298, 299, 300, 301, 302};
+        int[] left = {298, 299, 300, 300, 300};
+        for (int i = 0; i < deaths.length; i++) {
+            Orbitdock x = diesIn(deaths[i]);
+            Expect.same("left", left[i], x.timeLeft());
+            Scene.passTo(x, 0, deaths[i] - 1);
+            Expect.same("lives in " + deaths[i], 0, x.whereIs(0));
+            Expect.same("left", 1, x.timeLeft());
+            x.pass(1);
+            Expect.same("died in " + deaths[i], -1, x.whereIs(0));
+        }
+    }
+
+    static void promise28KnowsMinute299And300And301() {
+        int[] deaths = {298, 299, 300, 301, 302};
+        int[] left = {298, 299, 300, 300, 300};
+        for (int i = 0; i < deaths.length; i++) {
+            Orbitdock x = diesIn(deaths[i]);
+            Expect.same("worst, without the electrolyser", 203, x.worst());
+            // A second electrolyser does what the first one, failing, leaves.
+            x.setDevice(x.addDevice('e', 0), true);
+            Expect.same("worst of " + deaths[i], left[i], x.worst());
+            Expect.same("left of " + deaths[i], left[i], x.timeLeft());
+        }
+    }
+
+    static void promise28FindsTheEighthDevice() {
+        Orbitdock x = Scene.alone(30);
+        for (int i = 0; i < 7; i++) {
+            x.addDevice('l', 0);
+        }
+        x.setDevice(x.addDevice('e', 0), true);
+        Expect.same("as it is", 83, x.timeLeft());
+        Expect.same("without the eighth", 33, x.worst());
+    }
+
+    static void promise28FindsTheFirstDevice() {
+        Orbitdock x = Scene.alone(30);
+        x.setDevice(x.addDevice('e', 0), true);
+        for (int i = 0; i < 7; i++) {
+            x.addDevice('l', 0);
+        }
+        Expect.same("as it is", 83, x.timeLeft());
+        Expect.same("without the first", 33, x.worst());
+    }
+
+    static void promise28ADeviceThatIsOffMakesNoDifference() {
+        Orbitdock x = Scene.alone(30);
+        x.addDevice('e', 0);
+        Expect.same("as it is", 33, x.timeLeft());
+        Expect.same("worst", 33, x.worst());
+    }
+
+    // Each device is off by itself: with one of two the other one still makes all the oxygen.
+    static void promise28TakesOneDeviceAtATime() {
+        Orbitdock x = Scene.alone(0);
+        Scene.turnOn(x, "ee");
+        Expect.same("as it is", 53, x.timeLeft());
+        Expect.same("without either", 53, x.worst());
+        x.setDevice(1, false);
+        Expect.same("without the one that is on", 3, x.worst());
+    }
+
+    static void promises27And28LookBeyondMinute9999() {
+        Orbitdock x = Scene.alone(30);
+        x.addDevice('e', 0);
+        Scene.passTo(x, 0, 9999);
+        Expect.same("died long ago", 300, x.timeLeft());
+        x.endSafe();
+        x.addRoom(30);
+        x.board(1);
+        x.addDevice('e', 1);
+        Expect.same("left", 33, x.timeLeft());
+        x.setDevice(1, true);
+        Expect.same("with the electrolyser", 83, x.timeLeft());
+        Expect.same("without it", 33, x.worst());
+        x.setDevice(1, false);
+        // The minute 10000 is one with contact.
+        x.send('n', 1, 1, 0);
+        Expect.same("commanded on", 83, x.timeLeft());
+        Expect.same("whatever is commanded", 33, x.worst());
+        Expect.same("the minute is still the last", ArithmeticException.class, Expect.thrownBy(() -> x.pass(1)));
+    }
+
+    static void promise27ReckonsWithEvenMinutes() {
+        Orbitdock x = Scene.alone(0);
+        x.setTask(0, 's');
+        Expect.same("asleep from an even minute on", 300, x.timeLeft());
+        x.pass(1);
+        Expect.same("asleep from an odd minute on", 300, x.timeLeft());
+        x.setTask(0, 'r');
+        Expect.same("at rest, one minute short", 2, x.timeLeft());
+    }
+
+    // In minute 60, without charge: what the panels give from minute 90 on may come just in time.
+    private static Orbitdock inTheShade(int oxygen) {
+        Orbitdock x = Scene.oneRoom(0);
+        x.setPanels(0);
+        Scene.turnOn(x, "eeee");
+        x.pass(60);
+        x.setPanels(5);
+        x.approach(1, 3);
+        x.burn(0, 1);
+        x.addRoom(oxygen);
+        x.board(1);
+        x.setDevice(0, false);
+        x.setDevice(1, false);
+        x.setDevice(2, false);
+        x.setDevice(3, false);
+        x.setDevice(x.addDevice('e', 1), true);
+        return x;
+    }
+
+    static void promise27ReckonsWithTheSunOfTheNextOrbit() {
+        Expect.same("short in 87, 88 and 89", 30, inTheShade(27).timeLeft());
+        Expect.same("short in 88 and 89", 36, inTheShade(28).timeLeft());
+        Expect.same("short in 89", 36, inTheShade(29).timeLeft());
+        Expect.same("not short ahead of 93", 36, inTheShade(30).timeLeft());
+        Expect.same("without the electrolyser", 33, inTheShade(30).worst());
+    }
 }

@@ -151,4 +151,21 @@ final class CrewTest {
         x.pass(3);
         return x;
     }
+
+    static void promises9To11AnEmptyStationHasNobody() {
+        Expect.refused("board", INDEX, Orbitdock::new, x -> x.board(0));
+        Expect.refused("move", INDEX, Scene::twoRooms, x -> x.move(0, 1));
+        Expect.refused("setTask", INDEX, Scene::twoRooms, x -> x.setTask(0, 'r'));
+        Expect.refused("setTask", INDEX, Orbitdock::new, x -> x.setTask(0, 'x'));
+    }
+
+    static void promise10RefusesTheDeadAheadOfTheSameRoom() {
+        Expect.refused("move of a dead to the same room", STATE, CrewTest::oneDied, x -> x.move(0, 0));
+    }
+
+    static void promise11RefusesOthersAheadOfTheSafeMode() {
+        Expect.refused("setTask of nobody", INDEX, Scene::safeStation, x -> x.setTask(2, 'w'));
+        Expect.refused("setTask of nobody", INDEX, Scene::safeStation, x -> x.setTask(-1, 'w'));
+        Expect.refused("setTask of no task", ARGUMENT, Scene::safeStation, x -> x.setTask(0, 'x'));
+    }
 }

@@ -102,4 +102,97 @@ final class FiguresTest {
         }
         Expect.same("events", "x", Expect.eventsOf(x));
     }
+
+    static void promise29TheBoundsOfRooms() {
+        Orbitdock x = Scene.oneRoom(0);
+        Expect.same("an empty room", 0L, x.checksum());
+        x.addRoom(200);
+        Expect.same("behind a full one", 200L, x.checksum());
+        x.addRoom(0);
+        Expect.same("ahead of an empty one", 31L * 200, x.checksum());
+    }
+
+    static void promise29SumsSixRoomsWithMuchCarbon() {
+        Orbitdock x = new Orbitdock();
+        for (int i = 0; i < 6; i++) {
+            x.addRoom(200);
+            x.board(i);
+        }
+        x.pass(90);
+        long due = 0;
+        for (int i = 0; i < 6; i++) {
+            due = 31 * due + 110 + 7 * 90;
+        }
+        Expect.same("checksum", due, x.checksum());
+    }
+
+    static void promise30IsTheNearestFloat() {
+        for (int dead = 0; dead <= 6; dead++) {
+            Orbitdock x = Scene.oneRoom(0);
+            x.addRoom(200);
+            for (int i = 0; i < 6; i++) {
+                x.board(i < dead ? 0 : 1);
+            }
+            x.pass(3);
+            Expect.same("share without " + dead, (float) (6 - dead) / (float) 6, x.aliveShare());
+        }
+    }
+
+    static void promise31TheBoundsOfRooms() {
+        Orbitdock x = Scene.oneRoom(0);
+        Expect.same("an empty room", 0.0, x.meanOxygen());
+        x.addRoom(200);
+        Expect.same("and a full one", 100.0, x.meanOxygen());
+        for (int i = 2; i < 6; i++) {
+            x.addRoom(1);
+        }
+        Expect.same("six rooms", 204.0 / 6.0, x.meanOxygen());
+    }
+
+    static void promise32HoldsAtTheBoundsOfBatteryAndTank() {
+        Orbitdock x = Scene.oneRoom(0);
+        Scene.turnOn(x, "eeee");
+        x.setPanels(0);
+        x.pass(5);
+        Expect.same("an empty battery", 0, x.battery());
+        Expect.same("an empty tank", 0, x.water());
+        Expect.same("sound", true, x.isSound());
+        x.setPanels(40);
+        for (int i = 0; i < 4; i++) {
+            x.setDevice(i, false);
+        }
+        x.pass(5);
+        Expect.same("a full battery", 200, x.battery());
+        Expect.same("sound", true, x.isSound());
+    }
+
+    static void promise32HoldsWithFullStore() {
+        Orbitdock x = Scene.alone(200);
+        Scene.turnOn(x, "s");
+        x.pass(90);
+        Expect.same("carbon", 1, x.carbon(0));
+        Expect.same("sound with 89 units in the store", true, x.isSound());
+    }
+
+    static void promise32HoldsInTheMinuteBehindTheLifeOfACommand() {
+        int[] lives = {0, 1, 39};
+        for (int life : lives) {
+            Orbitdock x = Scene.oneRoom(5);
+            x.addDevice('l', 0);
+            x.pass(50);
+            x.send('n', 0, 1, life);
+            x.pass(1 + life + 1);
+            Expect.same("waits", 0, x.events());
+            Expect.same("sound, though its life is over", true, x.isSound());
+            x.pass(1);
+            Expect.same("expired", "x", Expect.eventsOf(x));
+            Expect.same("sound", true, x.isSound());
+        }
+    }
+
+    static void promise32HoldsInTheLastMinute() {
+        Orbitdock x = Scene.fullOfAll();
+        Scene.passTo(x, 0, 9999);
+        Expect.same("sound", true, x.isSound());
+    }
 }

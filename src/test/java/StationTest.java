@@ -184,4 +184,35 @@ final class StationTest {
             Expect.refused("setPanels", ARGUMENT, Scene::twoRooms, x -> x.setPanels(units));
         }
     }
+
+    static void promises3To8AnEmptyStationHasNothingToSet() {
+        Expect.refused("addHatch", INDEX, Orbitdock::new, x -> x.addHatch(0, 0));
+        Expect.refused("addHatch", INDEX, Orbitdock::new, x -> x.addHatch(0, 1));
+        Expect.refused("setHatch", INDEX, Orbitdock::new, x -> x.setHatch(0, true));
+        Expect.refused("setLeak", INDEX, Orbitdock::new, x -> x.setLeak(0, 0));
+        Expect.refused("setLeak", INDEX, Orbitdock::new, x -> x.setLeak(0, 10));
+        Expect.refused("addDevice", INDEX, Orbitdock::new, x -> x.addDevice('s', 0));
+        Expect.refused("addDevice", ARGUMENT, Orbitdock::new, x -> x.addDevice('x', 0));
+        Expect.refused("setDevice", INDEX, Orbitdock::new, x -> x.setDevice(0, true));
+    }
+
+    static void promise3TheSecondRoomMakesAHatchPossible() {
+        Orbitdock x = Scene.oneRoom(60);
+        Expect.same("one room", INDEX, Expect.thrownBy(() -> x.addHatch(0, 1)));
+        Expect.same("one room with itself", ARGUMENT, Expect.thrownBy(() -> x.addHatch(0, 0)));
+        x.addRoom(20);
+        Expect.same("two rooms", 0, x.addHatch(0, 1));
+        Expect.same("the other way", 1, x.addHatch(1, 0));
+    }
+
+    static void promise5TheBoundsOfALeak() {
+        Orbitdock x = Scene.oneRoom(60);
+        Expect.same("before", 0, x.setLeak(0, 0));
+        x.pass(1);
+        Expect.same("oxygen with 0", 60, x.oxygen(0));
+        Expect.same("before", 0, x.setLeak(0, 9));
+        x.pass(1);
+        Expect.same("oxygen with 9", 51, x.oxygen(0));
+        Expect.same("before", 9, x.setLeak(0, 0));
+    }
 }
