@@ -149,8 +149,10 @@ final class AskedTest {
     }
 
     private static int minuteOfDeath(Orbitdock x) {
-        int minute = 0;
-        while (x.whereIs(0) >= 0 && minute < 399) {
+        Scene.passTo(x, 0, 270);
+        Expect.same("lives so far", 0, x.whereIs(0));
+        int minute = 270;
+        while (x.whereIs(0) >= 0 && minute < 350) {
             minute = x.pass(1);
         }
         return minute;
@@ -560,5 +562,21 @@ final class AskedTest {
         Expect.same("short in 89", 36, inTheShade(29).timeLeft());
         Expect.same("not short ahead of 93", 36, inTheShade(30).timeLeft());
         Expect.same("without the electrolyser", 33, inTheShade(30).worst());
+    }
+
+    // With 30 units the safe mode begins in minute 20, behind the commands of that minute.
+    static void promise27ReckonsWithTheSafeModeThatDropsCommands() {
+        int[] arrivals = {20, 21};
+        int[] left = {83, 33};
+        for (int i = 0; i < arrivals.length; i++) {
+            Orbitdock x = Scene.alone(30);
+            x.addDevice('e', 0);
+            x.send('n', 0, arrivals[i], 99);
+            Expect.same("arrival in " + arrivals[i], left[i], x.timeLeft());
+            Expect.same("worst", 33, x.worst());
+            x.pass(32);
+            Expect.same("what came of it", i == 0, x.isOn(0));
+            Expect.same("left", left[i] - 32, x.timeLeft());
+        }
     }
 }

@@ -334,15 +334,20 @@ final class CommandTest {
             arrivals[i] = sent + minutes;
             x.send('n', 0, minutes, life);
         }
+        int seen = x.events();
         for (int minute = sent; minute < sent + 160; minute++) {
             StringBuilder due = new StringBuilder();
             for (int arrival : arrivals) {
                 due.append(eventIn(minute, arrival, life));
             }
-            int before = x.events();
             x.pass(1);
-            Expect.same("events of minute " + minute, due.toString(), Expect.eventsOf(x).substring(before));
+            StringBuilder got = new StringBuilder();
+            for (int events = x.events(); seen < events; seen++) {
+                got.append(x.eventAt(seen));
+            }
+            Expect.same("events of minute " + minute, due.toString(), got.toString());
         }
+        Expect.same("all are gone", 12, seen);
     }
 
     private static String eventIn(int minute, int arrival, int life) {

@@ -28,7 +28,7 @@ final class TestRunner {
         }
     }
 
-    private static boolean isTest(Method method) {
+    static boolean isTest(Method method) {
         int modifiers = method.getModifiers();
         return Modifier.isStatic(modifiers) && !Modifier.isPrivate(modifiers)
                 && !method.isSynthetic() && method.getParameterCount() == 0
