@@ -1,3 +1,5 @@
+import java.util.List;
+import java.util.function.Consumer;
 import java.util.function.Supplier;
 
 /** Promises 17 to 28: what is asked, and the time that is left. */
@@ -577,6 +579,22 @@ final class AskedTest {
             x.pass(32);
             Expect.same("what came of it", i == 0, x.isOn(0));
             Expect.same("left", left[i] - 32, x.timeLeft());
+        }
+    }
+
+    // Each question by itself, some times, and what shows behind it.
+    static void promises17To32AskingChangesNothing() {
+        List<Consumer<Orbitdock>> questions = List.of(x -> x.oxygen(1), x -> x.carbon(1), Orbitdock::water,
+                Orbitdock::battery, x -> x.whereIs(1), x -> x.distance(0), x -> x.isOn(1), Orbitdock::isSafe,
+                Orbitdock::events, x -> x.eventAt(0), Orbitdock::timeLeft, Orbitdock::worst, Orbitdock::checksum,
+                Orbitdock::aliveShare, Orbitdock::meanOxygen, Orbitdock::isSound);
+        String due = Probe.everything(twoOfAll());
+        for (int i = 0; i < questions.size(); i++) {
+            Orbitdock asked = twoOfAll();
+            for (int times = 0; times < 3; times++) {
+                questions.get(i).accept(asked);
+            }
+            Expect.same("all behind question " + i, due, Probe.everything(asked));
         }
     }
 }

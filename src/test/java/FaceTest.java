@@ -6,51 +6,20 @@ import java.lang.reflect.Modifier;
 import java.nio.charset.StandardCharsets;
 import java.nio.file.Files;
 import java.nio.file.Path;
+import java.util.ArrayList;
 import java.util.Arrays;
+import java.util.List;
 import java.util.Set;
 import java.util.TreeSet;
+import java.util.regex.Matcher;
+import java.util.regex.Pattern;
 import java.util.stream.Collectors;
 
 /** The public face, to the letter, and what LANGUAGE.md rules out and a simple look can find. */
 final class FaceTest {
-    private static final String IA = "IllegalArgumentException";
-    private static final String IO = "IndexOutOfBoundsException";
-    private static final String IS = "IllegalStateException";
-    private static final String UO = "UnsupportedOperationException";
-    private static final String AR = "ArithmeticException";
-    private static final String[] FACE = {
-        "int addRoom(int) " + IA + " " + IS,
-        "int addHatch(int, int) " + IO + " " + IA + " " + IS,
-        "boolean setHatch(int, boolean) " + IO,
-        "int setLeak(int, int) " + IO + " " + IA,
-        "int addDevice(char, int) " + IA + " " + IO + " " + IS,
-        "boolean setDevice(int, boolean) " + IO + " " + UO,
-        "int setPanels(int) " + IA,
-        "int board(int) " + IO + " " + IS,
-        "int move(int, int) " + IO + " " + IS + " " + UO,
-        "char setTask(int, char) " + IO + " " + IA + " " + IS + " " + UO,
-        "int send(char, int, int, int) " + IA + " " + IO + " " + IS + " " + UO,
-        "int approach(int, int) " + IA + " " + IS,
-        "int burn(int, int) " + IO + " " + IA + " " + IS + " " + UO,
-        "int pass(int) " + IA + " " + AR,
-        "boolean endSafe()",
-        "int oxygen(int) " + IO,
-        "int carbon(int) " + IO,
-        "int water()",
-        "int battery()",
-        "int whereIs(int) " + IO,
-        "int distance(int) " + IO,
-        "boolean isOn(int) " + IO,
-        "boolean isSafe()",
-        "int events()",
-        "char eventAt(int) " + IO,
-        "int timeLeft()",
-        "int worst()",
-        "long checksum()",
-        "float aliveShare() " + AR,
-        "double meanOxygen() " + AR,
-        "boolean isSound()",
-    };
+    private static final Pattern METHOD = Pattern.compile(
+            "\\n    public ([a-z]+ \\w+\\([^)]*\\)(?:\\s+throws [\\w,\\s]+\\w)?)\\s*[;{]");
+    private static final Pattern AHEAD = Pattern.compile("Ahead of the calls (.*) the interface says: (.*)");
     private static final String[] RULED_OUT = {"->", "::", "import ", "package ", "synchronized", "finally",
         "assert ", "catch", "instanceof", "Exact(", "equals(", "hashCode", "toString", "Math.random", "System.",
         "protected ", "@", "null"};
@@ -60,30 +29,68 @@ final class FaceTest {
         Expect.same("package", "", Orbitdock.class.getPackageName());
     }
 
-    static void methodsAreTheDocuments() {
+    static void methodsAreTheDocuments() throws IOException {
         Set<String> found = new TreeSet<>();
         Set<String> publicNames = new TreeSet<>();
         for (Method method : Orbitdock.class.getDeclaredMethods()) {
             if (!Modifier.isPrivate(method.getModifiers())) {
-                found.add(signatureOf(method));
+                found.add(declarationOf(method));
                 publicNames.add(method.getName());
                 Expect.same("modifiers of " + method.getName(), Modifier.PUBLIC, method.getModifiers());
             }
         }
-        Expect.same("face", new TreeSet<>(Arrays.asList(FACE)), found);
+        Set<String> face = new TreeSet<>();
+        for (String declaration : declarationsIn(documentsFace())) {
+            face.add(withoutParameterNames(declaration));
+        }
+        Expect.same("face", face, found);
+        Expect.same("methods", 31, found.size());
         for (Method method : Orbitdock.class.getDeclaredMethods()) {
             Expect.same("a private one named " + method.getName(), false,
                     Modifier.isPrivate(method.getModifiers()) && publicNames.contains(method.getName()));
         }
     }
 
-    private static String signatureOf(Method method) {
+    static void declarationsAreTheDocumentsToTheLetter() throws IOException {
+        Expect.same("declarations", declarationsIn(documentsFace()), declarationsIn(source()));
+    }
+
+    private static String documentsFace() throws IOException {
+        String document = read("../shared/DOC.md");
+        int from = document.indexOf("```java");
+        return document.substring(from, document.indexOf("```", from + 1));
+    }
+
+    private static String source() throws IOException {
+        return read("src/main/java/Orbitdock.java");
+    }
+
+    private static String read(String path) throws IOException {
+        return Files.readString(Path.of(path), StandardCharsets.UTF_8);
+    }
+
+    // The public methods of a text in their order, each as it is declared there, in one line.
+    private static List<String> declarationsIn(String text) {
+        List<String> declarations = new ArrayList<>();
+        Matcher method = METHOD.matcher(text);
+        while (method.find()) {
+            declarations.add(method.group(1).replaceAll("\\s+", " "));
+        }
+        return declarations;
+    }
+
+    private static String withoutParameterNames(String declaration) {
+        int end = declaration.indexOf(')') + 1;
+        return declaration.substring(0, end).replaceAll("(\\w+) \\w+(?=[,)])", "$1") + declaration.substring(end);
+    }
+
+    private static String declarationOf(Method method) {
         String parameters = Arrays.stream(method.getParameterTypes()).map(Class::getSimpleName)
                 .collect(Collectors.joining(", "));
         String thrown = Arrays.stream(method.getExceptionTypes()).map(Class::getSimpleName)
-                .collect(Collectors.joining(" "));
-        return (method.getReturnType().getSimpleName() + " " + method.getName() + "(" + parameters + ") " + thrown)
-                .trim();
+                .collect(Collectors.joining(", "));
+        return method.getReturnType().getSimpleName() + " " + method.getName() + "(" + parameters + ")"
+                + (thrown.isEmpty() ? "" : " throws " + thrown);
     }
 
     static void nothingElseShows() {
@@ -118,8 +125,30 @@ final class FaceTest {
         Expect.same("some twenty fields of " + one, true, own <= 20);
     }
 
+    // What the interface says ahead of its calls is a comment ahead of the same ones, in the same order.
+    static void sourceSaysWhatStandsAheadOfTheCalls() throws IOException {
+        String source = source();
+        int found = 0;
+        for (String line : read("../shared/DOC.md").split("\n")) {
+            Matcher ahead = AHEAD.matcher(line);
+            if (ahead.matches()) {
+                int from = source.indexOf("    // " + ahead.group(2) + "\n");
+                Expect.same("it says " + ahead.group(2), true, from > 0);
+                List<String> calls = List.of(ahead.group(1).replace("`", "").split(", "));
+                Expect.same("behind " + ahead.group(2), calls, firstCallsIn(source.substring(from), calls.size()));
+                found++;
+            }
+        }
+        Expect.same("as many as the document has", 5, found);
+    }
+
+    private static List<String> firstCallsIn(String text, int number) {
+        return declarationsIn(text).stream().limit(number)
+                .map(declaration -> declaration.replaceAll("\\w+ (\\w+)\\(.*", "$1")).collect(Collectors.toList());
+    }
+
     static void sourceHasNothingThatIsRuledOut() throws IOException {
-        String source = Files.readString(Path.of("src/main/java/Orbitdock.java"), StandardCharsets.UTF_8);
+        String source = source();
         for (String text : RULED_OUT) {
             Expect.same("the place of " + text, -1, source.indexOf(text));
         }

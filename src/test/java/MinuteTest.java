@@ -182,4 +182,107 @@ final class MinuteTest {
         x.pass(1);
         Expect.same("carbon of the minute", 1, x.carbon(0));
     }
+
+    // In the minute 11: a ship, devices, a leak, a hatch and a death are at hand. A command is for the minute behind,
+    // as the safe mode drops all that wait until the last breathless minute.
+    private static Orbitdock muchIsAtHand() {
+        Orbitdock x = Scene.oneRoom(80);
+        x.addRoom(0);
+        x.addRoom(0);
+        x.setHatch(x.addHatch(0, 1), false);
+        Scene.turnOn(x, "se");
+        x.addDevice('l', 0);
+        x.pass(9);
+        x.board(2);
+        x.approach(1, 40);
+        x.pass(2);
+        x.burn(0, 1);
+        x.setLeak(0, 9);
+        x.setHatch(0, true);
+        x.endSafe();
+        x.send('n', 2, 1, 99);
+        return x;
+    }
+
+    static void nothingHappensBetweenMinutes() {
+        Orbitdock x = muchIsAtHand();
+        String before = Probe.answers(x);
+        x.setLeak(0, 9);
+        x.setHatch(0, true);
+        x.setDevice(1, true);
+        x.setPanels(10);
+        x.setTask(0, 'r');
+        x.burn(0, 0);
+        x.endSafe();
+        Expect.same("move", UnsupportedOperationException.class, Expect.thrownBy(() -> x.move(0, 1)));
+        Expect.same("pass", ARGUMENT, Expect.thrownBy(() -> x.pass(0)));
+        Expect.same("all", before, Probe.answers(x));
+        Expect.same("events", "s", Expect.eventsOf(x));
+        Expect.same("somebody lives", 2, x.whereIs(0));
+    }
+
+    static void allHappensInOneMinute() {
+        Orbitdock x = muchIsAtHand();
+        int oxygen = x.oxygen(0);
+        int water = x.water();
+        int battery = x.battery();
+        x.setPanels(0);
+        Expect.same("minute", 12, x.pass(1));
+        Expect.same("events", "sdk", Expect.eventsOf(x));
+        Expect.same("the command waits", false, x.isOn(2));
+        Expect.same("water of the ship, less 3", water + 40 - 3, x.water());
+        Expect.same("3 and 5 units of power", battery - 8, x.battery());
+        int rest = oxygen + 3 - 9;
+        Expect.same("half went over", rest - rest / 2, x.oxygen(0));
+        Expect.same("to here", rest / 2, x.oxygen(1));
+        x.pass(1);
+        Expect.same("events", "sdkc", Expect.eventsOf(x));
+        Expect.same("the command acted", true, x.isOn(2));
+    }
+
+    // Without leaks and scrubbers what breathing and electrolysis change stays aboard.
+    static void massIsWholeMinuteByMinute() {
+        Orbitdock x = Scene.fullStation();
+        for (int i = 0; i < 6; i++) {
+            x.board(i);
+            x.setTask(i, "rws".charAt(i % 3));
+        }
+        x.setDevice(1, true);
+        x.setDevice(4, true);
+        x.approach(40, 30);
+        x.burn(0, 1);
+        int mass = massOf(x);
+        for (int minute = 0; minute < 80; minute++) {
+            x.pass(1);
+            Expect.same("mass behind minute " + minute, minute < 39 ? mass : mass + 30, massOf(x));
+        }
+        Expect.same("the ship docked", -1, x.distance(0));
+    }
+
+    private static int massOf(Orbitdock x) {
+        int mass = x.water();
+        for (int room = 0; room < 6; room++) {
+            mass += x.oxygen(room) + x.carbon(room);
+        }
+        return mass;
+    }
+
+    static void massGoesByLeaksAndScrubbersAlone() {
+        Orbitdock x = Scene.alone(200);
+        for (int i = 1; i < 6; i++) {
+            x.addRoom(0);
+        }
+        x.pass(11);
+        int mass = massOf(x);
+        x.setLeak(0, 7);
+        x.pass(3);
+        Expect.same("leaked", mass - 21, massOf(x));
+        x.setLeak(0, 0);
+        Scene.turnOn(x, "s");
+        x.pass(2);
+        Expect.same("in the store", mass - 21 - 8, massOf(x));
+        x.setDevice(0, false);
+        x.pass(5);
+        Expect.same("nothing more went", mass - 29, massOf(x));
+    }
 }

@@ -226,4 +226,21 @@ final class SafeModeTest {
         x.pass(60);
         Expect.same("off", false, x.isOn(0));
     }
+
+    static void shipsAndDevicesGoOnInIt() {
+        Orbitdock x = Scene.safeStation();
+        x.approach(1, 20);
+        x.approach(3, 20);
+        x.burn(0, 1);
+        x.burn(1, 3);
+        x.setDevice(1, true);
+        x.setPanels(0);
+        int battery = x.battery();
+        x.pass(1);
+        Expect.same("safe mode", true, x.isSafe());
+        Expect.same("events", "sdt", Expect.eventsOf(x));
+        Expect.same("water", 70, x.water());
+        Expect.same("battery", battery - 3, x.battery());
+        Expect.same("carbon, scrubbed and breathed", 1, x.carbon(0));
+    }
 }
